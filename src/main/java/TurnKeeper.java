@@ -99,14 +99,13 @@ public final class TurnKeeper {
   }
 
   public int drop(int o) throws NoSuchElementException, IllegalStateException {
-    Sync s = syncAt(o);
-    if (s == null) {
+    if (o < 0 || o >= syncs.length || syncs[o] == null) {
       throw new NoSuchElementException("no such OBJECT");
     }
-    if (s.hasStrands()) {
+    if (syncs[o].hasStrands()) {
       throw new IllegalStateException("a THREAD is in a row of it");
     }
-    syncs[s.number] = null;
+    syncs[o] = null;
     return howManySyncs();
   }
 
@@ -446,14 +445,14 @@ public final class TurnKeeper {
     boolean read() {
       at = 0;
       place = -1;
-      for (size = 0; size < CODE_MOST; size++) {
+      for (int i = 0; i < CODE_MOST; i++) {
         skipBlanks();
-        if (!readInstruction(size * CODE_WIDTH)) {
+        if (!readInstruction(i * CODE_WIDTH)) {
           return false;
         }
         skipBlanks();
         if (at >= length) {
-          size++;
+          size = i + 1;
           return true;
         }
         if (here() != ';') {
@@ -512,12 +511,13 @@ public final class TurnKeeper {
     }
 
     private static boolean inRange(char range, int n) {
-      switch (range) {
-        case 'o': return n >= 0 && n < SYNCS;
-        case 'k': return n >= 0 && n < CODE_MOST;
-        case 'p': return n >= 1;
-        default: return true;
+      if (range == 'o') {
+        return n >= 0 && n < SYNCS;
       }
+      if (range == 'k') {
+        return n >= 0 && n < CODE_MOST;
+      }
+      return range != 'p' || n >= 1;
     }
 
     /** Which word stands from there up to here; -1 for none. */

@@ -63,9 +63,9 @@ public final class LookTest {
     StringBuilder first = new StringBuilder();
     StringBuilder then = new StringBuilder();
     for (int t = 0; t < 8; t++) {
-      eight.append("make 0 ").append(t & 1).append(" -> ").append(t).append('\n');
-      first.append("thread lock ").append(t).append("; lock ").append((t + 3) & 7).append(" -> ").append(t).append('\n');
-      then.append("step ").append(t).append(" -> 2\n");
+      eight.append("make 0 " + (t & 1) + " -> " + t + "\n");
+      first.append("thread lock " + t + "; lock " + ((t + 3) & 7) + " -> " + t + "\n");
+      then.append("step " + t + " -> 2\n");
     }
     Script.run("a ring of eight", eight + "" + first + "run 2 0 8 -> 8\ndead -> -1\n"
         + then.toString().replace("step 7 -> 2\n", "dead -> -1\nstep 7 -> 2\n") + "dead -> 0\n");

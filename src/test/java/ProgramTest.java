@@ -122,6 +122,9 @@ public final class ProgramTest {
     Script.run("the 60th", "thread " + sixty.toString().replace("end", "add 1") + " -> 0\n"
         + "run 1 0 4000 -> 60\nview 0 -> 4 60 -1 -1 0 0\n");
     whole("end" + " ".repeat(1597));
+    whole(" ".repeat(1597) + "end");
+    whole(" ".repeat(1594) + "load 1");
+    broken(" ".repeat(1595) + "load ", 1600);
     broken("end" + " ".repeat(1596) + "x", 1599);
   }
 

@@ -4,6 +4,7 @@ public final class TapeTest {
     aNewObjectIsEmpty();
     feedTakesTheHighestByteFirst();
     feedStopsAt1600();
+    aFeedThatThrowsLeavesTheBytes();
     endCuts();
     Script.finish();
   }
@@ -63,6 +64,16 @@ public final class TapeTest {
     Script.due("feed behind 1600", Script.answer(k, "feed 1 2 3 4 5"), "IOB");
     Script.due("end at 1600", k.end(1600), 1600);
     Script.due("end behind", Script.answer(k, "end 1601"), "IAE");
+  }
+
+  private static void aFeedThatThrowsLeavesTheBytes() {
+    TurnKeeper k = new TurnKeeper();
+    Script.tape(k, "load 12345" + " ".repeat(1590));
+    Script.due("feed to a full TAPE", Script.answer(k, "feed 1 2 3 4 5"), "IOB");
+    Script.due("end that throws", Script.answer(k, "end 1601"), "IAE");
+    Script.due("thread", k.thread(), 0);
+    Script.due("step", k.step(0), 4);
+    Script.due("A", k.look(0, 1), 12345);
   }
 
   private static void endCuts() {
