@@ -1,29 +1,32 @@
-/** Promise 11: look; 12: dead; 14: count. */
+/** Promise 11: look. */
 public final class LookTest {
   public static void main(String[] args) {
-    lookRanges();
-    lookAtStates();
-    rings();
-    noRings();
-    counts();
+    ranges();
+    eachWhat();
+    objectsWaitedFor();
     Script.finish();
   }
 
-  private static void lookRanges() {
-    Script.run("look ranges", """
-        look -1 0 -> IAE
-        look 8 0 -> IAE
+  private static void ranges() {
+    Script.run("Of THREAD t, what 0 .. 5 as told.", "below 0 and above 5", """
+        thread add 1 -> 0
         look 0 -1 -> IAE
         look 0 6 -> IAE
-        look 7 2147483647 -> IAE
+        look 7 -1 -> IAE
+        look 7 6 -> IAE
+        look 0 2147483647 -> IAE
+        look 0 -2147483648 -> IAE
+        look -1 6 -> IAE
+        look 8 -1 -> IAE
+        look 0 0 -> 1
+        look 0 5 -> 0
+        look 7 0 -> 0
         look 7 5 -> 0
-        look 7 2 -> -1
-        look 7 3 -> -1
         """);
   }
 
-  private static void lookAtStates() {
-    Script.run("look", """
+  private static void eachWhat() {
+    String some = """
         make 5 0 -> 0
         make 2 1 -> 1
         thread load 1; await 1; end -> 0
@@ -33,130 +36,102 @@ public final class LookTest {
         thread load 5; await 1 -> 4
         steps 0 0 1 1 2 2 3 3 4 -> 1 2 1 3 1 5 1 4 1
         interrupt 4 -> 1
-        view 0 -> 2 1 1 1 0 0
-        view 1 -> 3 2 1 -1 0 0
-        view 2 -> 5 3 1 -1 0 2
-        view 3 -> 4 4 -1 -1 0 0
-        view 4 -> 1 5 1 -1 1 0
-        view 5 -> 0 0 -1 -1 0 0
-        """);
-  }
-
-  private static void rings() {
-    Script.run("a ring of two, with one behind it", """
-        make 0 0 -> 0
-        make 0 1 -> 1
-        make 0 1 -> 2
-        thread lock 2; lock 0 -> 0
-        thread lock 0; lock 1 -> 1
-        thread lock 1; lock 0 -> 2
-        thread lock 2 -> 3
-        dead -> -1
-        steps 0 1 2 3 0 2 -> 1 1 1 2 2 2
-        dead -> -1
-        step 1 -> 2
-        dead -> 1
-        interrupt 1 -> 1
-        dead -> -1
-        """);
-    StringBuilder eight = new StringBuilder();
-    StringBuilder first = new StringBuilder();
-    StringBuilder then = new StringBuilder();
-    for (int t = 0; t < 8; t++) {
-      eight.append("make 0 " + (t & 1) + " -> " + t + "\n");
-      first.append("thread lock " + t + "; lock " + ((t + 3) & 7) + " -> " + t + "\n");
-      then.append("step " + t + " -> 2\n");
-    }
-    Script.run("a ring of eight", eight + "" + first + "run 2 0 8 -> 8\ndead -> -1\n"
-        + then.toString().replace("step 7 -> 2\n", "dead -> -1\nstep 7 -> 2\n") + "dead -> 0\n");
-    Script.run("two rings: the least of all", """
-        make 0 1 -> 0
-        make 0 1 -> 1
-        make 0 1 -> 2
-        make 0 1 -> 3
-        thread lock 0; lock 3 -> 0
-        thread lock 1; lock 2 -> 1
-        thread lock 2; lock 1 -> 2
-        thread lock 3; lock 0 -> 3
-        run 2 0 4 -> 4
-        steps 1 2 -> 2 2
-        dead -> 1
-        steps 0 3 -> 2 2
-        dead -> 0
-        """);
-    Script.run("one that comes back from wait", """
-        make 0 1 -> 0
-        make 0 1 -> 1
-        thread lock 0; lock 1; wait 1; end -> 0
-        thread lock 1; lock 0 -> 1
-        steps 0 0 1 0 -> 1 1 2 2
-        sync 1 2 -> 1
-        step 1 -> 2
-        dead -> -1
-        interrupt 0 -> 1
+        """;
+    Script.run("look(t, what): 0 STATE, 1 A", "each STATE", some + """
         look 0 0 -> 2
-        dead -> 0
+        look 1 0 -> 3
+        look 2 0 -> 5
+        look 3 0 -> 4
+        look 4 0 -> 1
+        look 5 0 -> 0
+        look 0 1 -> 1
+        look 1 1 -> 2
+        look 2 1 -> 3
+        look 3 1 -> 4
+        look 4 1 -> 5
+        look 5 1 -> 0
         """);
-  }
-
-  private static void noRings() {
-    Script.run("READY in the row is not WAITING", """
-        make 0 0 -> 0
-        make 0 1 -> 1
-        thread lock 1; lock 0; end -> 0
-        thread lock 0; unlock 0; lock 0; lock 1 -> 1
-        steps 0 1 0 1 1 1 -> 1 1 2 1 1 2
-        look 0 0 -> 1
-        dead -> -1
-        step 0 -> 2
-        dead -> 0
+    Script.run("2 the INSTRUCTION where it stands (from 0; -1 of none and ENDED ones)", "each STATE", some + """
+        look 0 2 -> 1
+        look 1 2 -> 1
+        look 2 2 -> 1
+        look 3 2 -> -1
+        look 4 2 -> 1
+        look 5 2 -> -1
+        thread end; end -> 2
+        look 2 2 -> 0
         """);
-    Script.run("GATES and ENDED ones make no ring", """
-        make 7 0 -> 0
-        make 7 0 -> 1
+    Script.run("2 the INSTRUCTION where it stands (from 0; -1 of none and ENDED ones)", "the 60th",
+        "thread " + "end;".repeat(59) + "jump 59 -> 0\nthread jump 59; " + "end;".repeat(58) + "end -> 1\n"
+        + "step 1 -> 1\nlook 1 2 -> 59\nstep 1 -> 4\nlook 1 2 -> -1\n");
+    Script.run("4 1 if interrupted", "only a READY one has it to come", some + """
+        look 0 4 -> 0
+        look 4 4 -> 1
+        interrupt 0 -> 1
+        interrupt 1 -> 1
+        interrupt 2 -> 0
+        interrupt 5 -> 0
+        look 0 4 -> 0
+        look 1 4 -> 0
+        look 2 4 -> 0
+        look 5 4 -> 0
+        step 4 -> 4
+        look 4 4 -> 0
+        """);
+    Script.run("5 why FAILED (0).", "0, 1, 2, 3", some + """
         make 0 0 -> 2
-        thread own 0; own 1 -> 0
-        thread own 1; own 0 -> 1
-        thread lock 2 -> 2
-        thread lock 2 -> 3
-        steps 0 1 0 1 2 3 -> 1 1 2 2 4 2
-        dead -> -1
+        make 7 0 -> 3
+        thread unlock 2 -> 2
+        thread out 3 -> 3
+        thread get 9 -> 5
+        steps 2 3 5 -> 5 5 5
+        look 2 5 -> 1
+        look 3 5 -> 3
+        look 5 5 -> 2
+        look 0 5 -> 0
+        look 1 5 -> 0
+        look 4 5 -> 0
+        look 6 5 -> 0
+        thread end -> 2
+        look 2 5 -> 0
         """);
   }
 
-  private static void counts() {
-    Script.run("count", """
-        count -1 -> IAE
-        count 5 -> IAE
-        count 9 -> IAE
-        count 34 -> IAE
-        count 2147483647 -> IAE
-        count -2147483648 -> IAE
-        count 2 -> -1
-        count 33 -> -1
-        tape end; x -> 6
-        count 0 -> 6
-        thread -> UOE
-        count 0 -> 0
-        count 2 -> 5
-        tape end -> 3
-        count 2 -> 5
-        thread -> 0
-        count 2 -> -1
-        thread -> UOE
-        count 2 -> 0
-        step 1 -> 0
-        count 4 -> 0
-        steps 0 0 -> 4 4
-        count 4 -> 1
-        thread unlock 0 -> 0
-        step 0 -> 5
-        count 4 -> 2
-        tick 7 -> 0
-        count 3 -> 7
-        make 7 0 -> 0
-        count 1 -> 1
-        count 10 -> 7
+  private static void objectsWaitedFor() {
+    String sentence = "3 the OBJECT that it waits for (-1)";
+    Script.run(sentence, "OBJECTS 0 and 23", Script.lines(24, "make 6 0 -> #") + """
+        thread join 0; end -> 0
+        thread join 23; end -> 1
+        look 0 3 -> -1
+        steps 0 1 -> 2 2
+        look 0 3 -> 0
+        look 1 3 -> 23
+        look 2 3 -> -1
+        interrupt 1 -> 1
+        look 1 3 -> -1
+        step 1 -> 4
+        look 1 3 -> -1
+        """);
+    Script.run(sentence, "both rows of a LOCK, READY in the row, asleep, FAILED", """
+        make 5 0 -> 0
+        make 0 0 -> 1
+        thread lock 1; wait 1 -> 0
+        thread lock 1; signal 1; unlock 1 -> 1
+        thread lock 1 -> 2
+        thread sleep 9 -> 3
+        thread unlock 1 -> 4
+        steps 0 0 1 2 3 4 -> 1 2 1 2 3 5
+        look 0 3 -> 1
+        look 1 3 -> -1
+        look 2 3 -> 1
+        look 3 3 -> -1
+        look 4 3 -> -1
+        step 1 -> 1
+        look 0 3 -> 1
+        step 1 -> 4
+        look 2 0 -> 1
+        look 2 3 -> -1
+        look 0 3 -> 1
         """);
   }
 }

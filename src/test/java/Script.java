@@ -1,13 +1,17 @@
 import java.util.NoSuchElementException;
 
 /**
- * Runs scripts against new objects of TurnKeeper. A line of a script is a call and, behind "->", what is due:
+ * Runs scripts against new objects of TurnKeeper, each named by the sentence of the document that it holds the class
+ * to. A line of a script is a call and, behind "->", what is due:
  *
  *   thread lock 0; add 1 -> 0    THE TAPE is made that text, then thread() is called
  *   tape some text -> 9          THE TAPE is made longer by that text, with no call of thread()
  *   view 0 -> 1 5 2 -1 0 0       look(0, 0) to look(0, 5)
  *   steps 0 1 1 -> 1 1 2         step(0), step(1), step(1)
  *   sync 0 4 -> UOE              any other call by its name; an exception by the letters below
+ *
+ * A second object, the twin, gets the calls that do not throw alone: if the two differ at the end, then a call that
+ * threw has changed something.
  */
 final class Script {
   private static int wrong = 0;
@@ -15,17 +19,22 @@ final class Script {
 
   private final String name;
   private final TurnKeeper keeper = new TurnKeeper();
+  private final TurnKeeper twin = new TurnKeeper();
+  private boolean threw;
 
   private Script(String name) {
     this.name = name;
   }
 
-  static void run(String name, String text) {
-    Script script = new Script(name);
+  static void run(String sentence, String what, String text) {
+    Script script = new Script(Doc.says(sentence) + ", " + what);
     for (String line : text.split("\n")) {
       if (!line.isBlank()) {
         script.runLine(line);
       }
+    }
+    if (script.threw) {
+      script.compareWithTwin();
     }
   }
 
@@ -64,14 +73,16 @@ final class Script {
 
   /** All that can be seen of an object. */
   static String picture(TurnKeeper keeper) {
+    return "PLACE " + keeper.count(2) + " " + pictureButPlace(keeper);
+  }
+
+  private static String pictureButPlace(TurnKeeper keeper) {
     StringBuilder seen = new StringBuilder();
     for (int what = 0; what < 34; what++) {
-      seen.append(what > 4 && what < 10 ? "" : keeper.count(what) + " ");
+      seen.append(what == 2 || what > 4 && what < 10 ? "" : keeper.count(what) + " ");
     }
     for (int t = 0; t < 8; t++) {
-      for (int what = 0; what < 6; what++) {
-        seen.append(keeper.look(t, what)).append(what < 5 ? ' ' : '|');
-      }
+      seen.append(view(keeper, t)).append('|');
     }
     for (int o = 0; o < 24; o++) {
       for (int what = 0; what < 5 && keeper.count(10 + o) >= 0; what++) {
@@ -79,6 +90,15 @@ final class Script {
       }
     }
     return seen.append(keeper.dead()).toString();
+  }
+
+  /** So many lines, with the number of each, from 0 on, for every # in it. */
+  static String lines(int n, String line) {
+    StringBuilder all = new StringBuilder();
+    for (int i = 0; i < n; i++) {
+      all.append(line.replace("#", "" + i)).append('\n');
+    }
+    return all.toString();
   }
 
   /** What a call answers, or the letters of what it throws. */
@@ -103,7 +123,26 @@ final class Script {
   private void runLine(String line) {
     int arrow = line.lastIndexOf("->");
     String call = line.substring(0, arrow).strip();
-    due(name + ": " + call, answer(keeper, call), line.substring(arrow + 2).strip());
+    String got = answer(keeper, call);
+    due(name + ": " + call, got, line.substring(arrow + 2).strip());
+    if (got.matches("[-0-9 ]*")) {
+      answer(twin, call);
+      return;
+    }
+    threw = true;
+    if (call.startsWith("thread")) {
+      twin.end(0);
+    }
+  }
+
+  /** Also what can't be seen at once: THE TAPE's bytes, whose turn it is, the rows' order, how long sleepers sleep. */
+  private void compareWithTwin() {
+    due(name + ": all that is seen", pictureButPlace(keeper), pictureButPlace(twin));
+    String[] more = {"thread", "count 2", "run 2 0 5", "tick 1", "run 2 0 99", "tick 9", "run 0 8 99"};
+    for (String call : more) {
+      due(name + ": then " + call, answer(keeper, call), answer(twin, call));
+    }
+    due(name + ": all that is seen then", pictureButPlace(keeper), pictureButPlace(twin));
   }
 
   private static String call(TurnKeeper keeper, String call) {
