@@ -35,7 +35,13 @@ public final class CountTest {
         end 0 -> 0
         """ + "tape " + "x".repeat(1600) + " -> 1600\ncount 0 -> 1600\nthread -> UOE\ncount 0 -> 0\n");
     Script.run("1: OBJECTS", "0, 1, 24, 23", "count 1 -> 0\nmake 5 0 -> 0\ncount 1 -> 1\ndrop 0 -> 0\ncount 1 -> 0\n"
-        + Script.lines(24, "make 5 # -> #") + "count 1 -> 24\nmake 5 0 -> ISE\ncount 1 -> 24\ndrop 9 -> 23\ncount 1 -> 23\n");
+        + Script.lines(24, "make 5 # -> #") + """
+        count 1 -> 24
+        make 5 0 -> ISE
+        count 1 -> 24
+        drop 9 -> 23
+        count 1 -> 23
+        """);
     Script.run("3: the CLOCK", "0, and an n that is refused", """
         count 3 -> 0
         tick 7 -> 0

@@ -19,7 +19,8 @@ public final class DeadTest {
         step 0 -> 4
         dead -> -1
         """);
-    Script.run("The least THREAD in a ring of those that wait at LOCKS of one another; -1 without.", "GATES make none", """
+    Script.run("The least THREAD in a ring of those that wait at LOCKS of one another; -1 without.",
+        "GATES make none", """
         make 7 0 -> 0
         make 7 0 -> 1
         thread own 0; own 1 -> 0
@@ -27,7 +28,8 @@ public final class DeadTest {
         steps 0 1 0 1 -> 1 1 2 2
         dead -> -1
         """);
-    Script.run("each WAITING in a first row for a LOCK of the next", "one in the second row makes none, in the first it does", """
+    Script.run("each WAITING in a first row for a LOCK of the next",
+        "one in the second row makes none, in the first it does", """
         make 0 1 -> 0
         make 0 1 -> 1
         thread lock 0; lock 1; wait 1; end -> 0
@@ -40,7 +42,8 @@ public final class DeadTest {
         look 0 0 -> 2
         dead -> 0
         """);
-    Script.run("each WAITING in a first row for a LOCK of the next", "READY in the row makes none, WAITING there does", """
+    Script.run("each WAITING in a first row for a LOCK of the next",
+        "READY in the row makes none, WAITING there does", """
         make 0 0 -> 0
         make 0 1 -> 1
         thread lock 1; lock 0; end -> 0
@@ -83,11 +86,12 @@ public final class DeadTest {
       StringBuilder eight = new StringBuilder();
       StringBuilder then = new StringBuilder();
       for (int t = 0; t < 8; t++) {
-        eight.append("make 0 " + (t & 1) + " -> " + t + "\nthread lock " + t + "; lock " + ((t + apart) & 7) + " -> " + t
-            + "\n");
+        eight.append("make 0 " + (t & 1) + " -> " + t + "\n");
+        eight.append("thread lock " + t + "; lock " + ((t + apart) & 7) + " -> " + t + "\n");
         then.append(t < 7 ? "" : "dead -> -1\n").append("step " + t + " -> 2\n");
       }
-      Script.run(sentence, "all eight, " + apart + " apart", eight + "run 2 0 8 -> 8\ndead -> -1\n" + then + "dead -> 0\n");
+      Script.run(sentence,
+          "all eight, " + apart + " apart", eight + "run 2 0 8 -> 8\ndead -> -1\n" + then + "dead -> 0\n");
     }
     Script.run(sentence, "6 and 7 alone", """
         make 0 1 -> 0

@@ -10,7 +10,8 @@ import java.util.stream.Stream;
 /** Every sentence of the document's Terms and Promises is named by a test, but for those that are listed here. */
 public final class DocTest {
   /** What only says of which call or KIND the next sentences are. */
-  private static final String[] NOTHING_TO_TEST = {"```text", "INSTRUCTIONS:", "THREADS 0 .. 7: thread():", "step(t):", "GATE:"};
+  private static final String[] NOTHING_TO_TEST = {
+      "```text", "INSTRUCTIONS:", "THREADS 0 .. 7: thread():", "step(t):", "GATE:"};
   private static final Pattern TEXT = Pattern.compile("\"((?:[^\"\\\\\n]|\\\\.)*)\"");
   /** Shorter texts stand in scripts as well. */
   private static final int LEAST = 8;
@@ -40,7 +41,8 @@ public final class DocTest {
 
   private static List<String> quoted() throws IOException {
     try (Stream<Path> files = Files.list(Path.of(System.getProperty("tests", "src/test/java")))) {
-      return files.filter(f -> f.toString().endsWith("Test.java") && !f.endsWith("DocTest.java")).flatMap(DocTest::texts).distinct().collect(Collectors.toList());
+      return files.filter(f -> f.toString().endsWith("Test.java") && !f.endsWith("DocTest.java"))
+          .flatMap(DocTest::texts).distinct().collect(Collectors.toList());
     }
   }
 

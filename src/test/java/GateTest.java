@@ -183,7 +183,8 @@ public final class GateTest {
   }
 
   private static void rows() {
-    Script.run("else all at in up to the first at own, READERS more.", "two at in, one at own, one at in, and so on", """
+    Script.run("else all at in up to the first at own, READERS more.",
+        "two at in, one at own, one at in, and so on", """
         make 7 0 -> 0
         thread own 0; back 0 -> 0
         thread in 0; out 0 -> 1

@@ -48,7 +48,8 @@ public final class InterruptTest {
     for (String wait : WAITS) {
       int bar = wait.indexOf('|');
       String word = wait.substring(bar + 1);
-      Script.run("interrupt(t): WAITING, SLEEPING: it leaves its row, A is -2, and it is READY behind its INSTRUCTION", "at " + word,
+      Script.run("interrupt(t): WAITING, SLEEPING: it leaves its row, A is -2, and it is READY behind its INSTRUCTION",
+          "at " + word,
           "make " + wait.substring(0, bar) + " -> 0\nthread " + word + "; end -> 0\n" + """
           step 0 -> 2
           interrupt 0 -> 1
@@ -95,6 +96,16 @@ public final class InterruptTest {
         steps 0 0 -> 1 4
         sync 0 2 -> -1
         sync 1 2 -> -1
+        """);
+    Script.run("WAITING, SLEEPING: it leaves its row, A is -2", "at lock, behind a wait that is over", """
+        make 0 1 -> 0
+        thread lock 0; wait 0; unlock 0; lock 0; end -> 0
+        thread lock 0; signal 0; unlock 0; lock 0; end -> 1
+        steps 0 0 1 1 1 0 1 0 -> 1 2 1 1 1 1 1 2
+        interrupt 0 -> 1
+        view 0 -> 1 -2 4 -1 0 0
+        sync 0 1 -> 0
+        sync 0 2 -> 1
         """);
   }
 
@@ -162,7 +173,8 @@ public final class InterruptTest {
   }
 
   private static void readyOnes() {
-    String sentence = "READY: its next INSTRUCTION that would wait (also sleep above 0; not lock) does not, A is -2, and that is over: 1";
+    String sentence = "READY: its next INSTRUCTION that would wait (also sleep above 0; not lock) does not, A is "
+        + "-2, and that is over: 1";
     for (String wait : WAITS) {
       int bar = wait.indexOf('|');
       String word = wait.substring(bar + 1);
@@ -288,7 +300,8 @@ public final class InterruptTest {
   }
 
   private static void waitInTheSecondRow() {
-    String sentence = "(of wait: it comes to the LOCK's first row as if signalled, or stays there, and goes on with -2)";
+    String sentence =
+        "(of wait: it comes to the LOCK's first row as if signalled, or stays there, and goes on with -2)";
     Script.run(sentence, "free, not FAIR: it is READY in the first row", """
         make 0 0 -> 0
         thread lock 0; lock 0; wait 0; unlock 0; unlock 0 -> 0

@@ -99,11 +99,21 @@ public final class LockTest {
         step 1 -> 1
         sync 0 2 -> -1
         """);
+    Script.run("where they stood their INSTRUCTION is done.", "a LOCK's, behind a wait that is over", """
+        make 0 1 -> 0
+        thread lock 0; wait 0; unlock 0; load 5; lock 0; end -> 0
+        thread lock 0; signal 0; unlock 0; lock 0; unlock 0 -> 1
+        steps 0 0 1 1 1 0 0 1 0 -> 1 2 1 1 1 1 1 1 2
+        step 1 -> 4
+        view 0 -> 1 5 5 -1 0 0
+        sync 0 0 -> 1
+        """);
   }
 
   private static void tries() {
     for (int fair = 0; fair < 2; fair++) {
-      Script.run("try o: as lock, A is 1, else 0.", "free, its own, another's, a " + fair, "make 0 " + fair + " -> 0\n" + """
+      Script.run("try o: as lock, A is 1, else 0.",
+          "free, its own, another's, a " + fair, "make 0 " + fair + " -> 0\n" + """
           thread load 5; try 0; try 0; unlock 0; unlock 0; end -> 0
           thread load 5; try 0; try 0; unlock 0 -> 1
           steps 0 0 -> 1 1
@@ -445,7 +455,8 @@ public final class LockTest {
   }
 
   private static void staysOfTheEnded() {
-    String sentence = "A LOCK, GATE of one that ENDED or FAILED stays its own, by its number (also of the next one with that).";
+    String sentence =
+        "A LOCK, GATE of one that ENDED or FAILED stays its own, by its number (also of the next one with that).";
     Script.run(sentence, "a LOCK of one that ENDED", """
         make 0 0 -> 0
         thread lock 0 -> 0

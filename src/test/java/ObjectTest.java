@@ -103,7 +103,8 @@ public final class ObjectTest {
         make 7 2147483647 -> 3
         count 1 -> 4
         """);
-    Script.run("(what a KIND has not does not matter; else IllegalArgumentException)", "a that FUTURE, GATE have not", """
+    Script.run("(what a KIND has not does not matter; else IllegalArgumentException)",
+        "a that FUTURE, GATE have not", """
         make 6 -7 -> 0
         make 7 -7 -> 1
         sync 0 0 -> 1099511627776
@@ -125,7 +126,8 @@ public final class ObjectTest {
         make 6 0 -> 23
         make 6 0 -> ISE
         """);
-    Script.run("IllegalArgumentException: a number out of range; then as told.", "make of a wrong one where full", full + """
+    Script.run("IllegalArgumentException: a number out of range; then as told.",
+        "make of a wrong one where full", full + """
         make 8 0 -> IAE
         make -1 0 -> IAE
         make 4 0 -> IAE
@@ -245,7 +247,8 @@ public final class ObjectTest {
   }
 
   private static void dropWithoutARow() {
-    Script.run("a THREAD is in a row of it: IllegalStateException.", "an owner, READERS, items, a VALUE are in no row", """
+    Script.run("a THREAD is in a row of it: IllegalStateException.",
+        "an owner, READERS, items, a VALUE are in no row", """
         make 0 0 -> 0
         make 7 0 -> 1
         make 7 0 -> 2

@@ -276,7 +276,8 @@ public final class ProgramTest {
 
   private static void whichNumber() {
     String eight = Script.lines(8, "thread load #; unlock 0 -> #");
-    Script.run("It is that of the least THREAD that is none, ENDED or FAILED (else full)", "none, the 8th, full", eight + """
+    Script.run("It is that of the least THREAD that is none, ENDED or FAILED (else full)",
+        "none, the 8th, full", eight + """
         thread end -> ISE
         view 3 -> 1 0 0 -1 0 0
         interrupt 5 -> 1
@@ -296,7 +297,8 @@ public final class ProgramTest {
         thread end -> 0
         thread end -> 2
         """);
-    Script.run("It is that of the least THREAD that is none, ENDED or FAILED (else full)", "WAITING, SLEEPING are not", """
+    Script.run("It is that of the least THREAD that is none, ENDED or FAILED (else full)",
+        "WAITING, SLEEPING are not", """
         make 2 1 -> 0
         thread await 0 -> 0
         thread sleep 1 -> 1

@@ -10,7 +10,8 @@ public final class QueueTest {
   }
 
   private static void puts() {
-    String sentence = "put o: A comes to the end of the QUEUE, if it has room (with one that waits to take: to that at once); else it waits.";
+    String sentence = "put o: A comes to the end of the QUEUE, if it has room (with one that waits to take: to "
+        + "that at once); else it waits.";
     Script.run(sentence, "room for one", """
         make 4 1 -> 0
         thread load 6; put 0; load 7; put 0; end -> 0
@@ -101,7 +102,8 @@ public final class QueueTest {
   }
 
   private static void offersAndPolls() {
-    String sentence = "offer o, poll o: as put, take, if they need not wait, and A is 1 (offer); else A is 0, -1 (poll).";
+    String sentence =
+        "offer o, poll o: as put, take, if they need not wait, and A is 1 (offer); else A is 0, -1 (poll).";
     Script.run(sentence, "the last that has room, the first that has not", """
         make 4 2 -> 0
         thread load 3; offer 0; load 4; offer 0; load 5; offer 0; end -> 0

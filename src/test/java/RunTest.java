@@ -193,7 +193,8 @@ public final class RunTest {
   }
 
   private static void inTurn() {
-    String sentence = "2: the next READY one behind the one that did the latest step of all (behind 7 comes 0; 0 at first): how many.";
+    String sentence = "2: the next READY one behind the one that did the latest step of all (behind 7 comes 0; 0 "
+        + "at first): how many.";
     String three = Script.lines(3, "thread add 1; add 1; add 1; add 1; add 1 -> #");
     Script.run(sentence, "0 at first", three + """
         run 2 0 1 -> 1

@@ -93,8 +93,8 @@ public final class StepTest {
   }
 
   private static void behindTheLast() {
-    String[] lastOnes = {"load 1", "add 1", "jump 1", "jump 59", "zero 1", "zero 59", "less 1", "sleep 0", "sleep -1", "end",
-        "time"};
+    String[] lastOnes = {"load 1", "add 1", "jump 1", "jump 59", "zero 1", "zero 59", "less 1", "sleep 0",
+        "sleep -1", "end", "time"};
     for (String last : lastOnes) {
       Script.run("(behind the last one it is ENDED, however it came there)", last,
           "thread " + last + " -> 0\nstep 0 -> 4\nlook 0 2 -> -1\nlook 0 0 -> 4\nstep 0 -> 4\ncount 4 -> 1\n");
@@ -105,9 +105,9 @@ public final class StepTest {
         tick 1 -> 1
         view 0 -> 4 0 -1 -1 0 0
         """);
-    String[] goesOn = {"0 1|lock 0; unlock 0|lock 0", "0 1|lock 0; wait 0; unlock 0|lock 0", "1 0|release 0 1|acquire 0 1",
-        "2 1|down 0|await 0", "3 2|meet 0|meet 0", "4 1|put 0|take 0", "6 0|give 0|join 0", "7 0|in 0; out 0|own 0",
-        "7 0|own 0; back 0|in 0", "7 0|own 0; back 0|own 0"};
+    String[] goesOn = {"0 1|lock 0; unlock 0|lock 0", "0 1|lock 0; wait 0; unlock 0|lock 0",
+        "1 0|release 0 1|acquire 0 1", "2 1|down 0|await 0", "3 2|meet 0|meet 0", "4 1|put 0|take 0",
+        "6 0|give 0|join 0", "7 0|in 0; out 0|own 0", "7 0|own 0; back 0|in 0", "7 0|own 0; back 0|own 0"};
     for (String one : goesOn) {
       String[] parts = one.split("\\|");
       String before = parts[1].contains(";") ? "step 0 -> 1\n" : "";
@@ -115,11 +115,13 @@ public final class StepTest {
       Script.run("(behind the last one it is ENDED, however it came there)", "another lets it go on from " + parts[2],
           "make " + parts[0] + " -> 0\nthread " + parts[1] + " -> 0\nthread " + parts[2] + " -> 1\n"
           + before + "step 1 -> 2\n" + then + "look 1 0 -> 4\nlook 1 2 -> -1\nlook 1 3 -> -1\nsync 0 1 -> 0\n");
-      Script.run("(behind the last one it is ENDED, however it came there)", "an interrupt lets it go on from " + parts[2],
+      Script.run("(behind the last one it is ENDED, however it came there)",
+          "an interrupt lets it go on from " + parts[2],
           "make " + parts[0] + " -> 0\nthread " + parts[1] + " -> 0\nthread " + parts[2] + " -> 1\n"
           + before + "step 1 -> 2\ninterrupt 1 -> 1\nview 1 -> 4 -2 -1 -1 0 0\nsync 0 1 -> 0\n");
     }
-    Script.run("(behind the last one it is ENDED, however it came there)", "it has a LOCK that is not FAIR by its step", """
+    Script.run("(behind the last one it is ENDED, however it came there)",
+        "it has a LOCK that is not FAIR by its step", """
         make 0 0 -> 0
         thread lock 0; unlock 0 -> 0
         thread lock 0 -> 1

@@ -29,7 +29,8 @@ public final class SyncTest {
         sync 0 0 -> 0
         sync 4 4 -> 6
         """);
-    Script.run("NoSuchElementException: an OBJECT is not there", "sync, also with a what out of range", ONE_OF_EACH + """
+    Script.run("NoSuchElementException: an OBJECT is not there",
+        "sync, also with a what out of range", ONE_OF_EACH + """
         sync -1 0 -> NSE
         sync 24 0 -> NSE
         sync 8 0 -> NSE

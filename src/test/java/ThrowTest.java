@@ -7,8 +7,8 @@ public final class ThrowTest {
       "drop 0 ISE", "drop 1 ISE", "drop 2 ISE", "drop 4 ISE", "step -1 IAE", "step 8 IAE", "run -1 0 5 IAE",
       "run 3 0 5 IAE", "run 0 0 4001 IAE", "run 1 0 4001 IAE", "run 2 0 4001 IAE", "run 0 0 -1 IAE", "run 1 0 -1 IAE",
       "run 2 0 -1 IAE", "tick -1 IAE", "interrupt -1 IAE", "interrupt 8 IAE", "look -1 0 IAE", "look 8 0 IAE",
-      "look 0 -1 IAE", "look 0 6 IAE", "sync -1 0 NSE", "sync 24 0 NSE", "sync 20 9 NSE", "sync 0 -1 IAE", "sync 0 5 IAE",
-      "sync 1 2 UOE", "sync 0 4 UOE", "count -1 IAE", "count 5 IAE", "count 9 IAE", "count 34 IAE"};
+      "look 0 -1 IAE", "look 0 6 IAE", "sync -1 0 NSE", "sync 24 0 NSE", "sync 20 9 NSE", "sync 0 -1 IAE",
+      "sync 0 5 IAE", "sync 1 2 UOE", "sync 0 4 UOE", "count -1 IAE", "count 5 IAE", "count 9 IAE", "count 34 IAE"};
 
   public static void main(String[] args) {
     for (String line : REFUSED) {
@@ -30,7 +30,7 @@ public final class ThrowTest {
     Script.finish();
   }
 
-  /** The call throws what is due; nothing else is seen to change, but for PLACE and an empty TAPE if a place is told. */
+  /** The call throws what is due and changes nothing; if a place is told, that is PLACE then, and THE TAPE is empty. */
   private static void refused(TurnKeeper k, String call, String due, String place) {
     String name = Doc.says(NOTHING) + ", " + call + " that throws " + due;
     String before = Script.picture(k);
@@ -82,7 +82,8 @@ public final class ThrowTest {
   }
 
   private static void inThisOrder() {
-    Script.run("What is thrown, in this order: NoSuchElementException: an OBJECT is not there", "before what is out of range", """
+    Script.run("What is thrown, in this order: NoSuchElementException: an OBJECT is not there",
+        "before what is out of range", """
         make 5 0 -> 0
         sync 1 5 -> NSE
         sync 1 -1 -> NSE
