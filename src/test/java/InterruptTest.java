@@ -221,6 +221,22 @@ public final class InterruptTest {
         sync 2 2 -> -1
         sync 2 1 -> 0
         """);
+    Script.run(sentence, "acquire and in, that would wait behind others alone", """
+        make 1 1 -> 0
+        make 7 0 -> 1
+        thread acquire 0 2; end -> 0
+        thread in 1; acquire 0 1; in 1; end -> 1
+        thread own 1; end -> 2
+        steps 0 1 2 -> 2 1 2
+        interrupt 1 -> 1
+        step 1 -> 1
+        view 1 -> 1 -2 2 -1 0 0
+        sync 0 0 -> 1
+        interrupt 1 -> 1
+        step 1 -> 1
+        view 1 -> 1 -2 3 -1 0 0
+        sync 1 0 -> 1
+        """);
     Script.run(sentence, "wait, which keeps the LOCK then", """
         make 0 1 -> 0
         thread lock 0; wait 0; wait 0 -> 0

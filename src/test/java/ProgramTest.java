@@ -335,6 +335,18 @@ public final class ProgramTest {
         view 0 -> 1 0 0 -1 0 0
         view 1 -> 1 0 0 -1 0 0
         """);
+    Script.run("READY at the first one, A 0, no interrupt.", "behind one with a longer PROGRAM", """
+        thread load 1; inc 0 7; load 3 -> 0
+        make 5 0 -> 0
+        run 1 0 9 -> 3
+        thread load 4 -> 0
+        step 0 -> 4
+        view 0 -> 4 4 -1 -1 0 0
+        thread jump 1 -> 0
+        step 0 -> 4
+        view 0 -> 4 0 -1 -1 0 0
+        sync 0 0 -> 7
+        """);
     Script.run("READY at the first one, A 0, no interrupt.", "behind one that waited with a COUNT", """
         make 0 1 -> 0
         make 2 1 -> 1

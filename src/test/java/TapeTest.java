@@ -145,6 +145,31 @@ public final class TapeTest {
         count 0 -> 0
         end 1 -> IAE
         """);
+    Script.run("THE TAPE keeps its first n bytes, n 0 .. its length.", "what was behind them is no more", """
+        tape load 123;end -> 12
+        end 6 -> 6
+        thread -> 0
+        step 0 -> 4
+        look 0 1 -> 1
+        tape load -23;end -> 12
+        end 6 -> 6
+        thread -> UOE
+        count 2 -> 6
+        tape load 123;end -> 12
+        end 5 -> 5
+        thread -> UOE
+        count 2 -> 5
+        tape end;end;end -> 11
+        end 2 -> 2
+        thread -> UOE
+        count 2 -> 0
+        tape end;end;end -> 11
+        end 3 -> 3
+        thread -> 0
+        end 0 -> 0
+        thread -> UOE
+        count 2 -> 0
+        """);
     Script.run("Answers n.", "each length down to 0", "tape 12345 -> 5\n"
         + "end 5 -> 5\nend 4 -> 4\nend 3 -> 3\nend 2 -> 2\nend 1 -> 1\nend 0 -> 0\nend 0 -> 0\n");
   }
